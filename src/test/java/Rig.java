@@ -2,9 +2,10 @@ import java.math.BigInteger;
 
 /** A new machine with a program in it, and the answers that are due from it. */
 final class Rig {
-    /** Where programs and data of the tests lie: block 1 and block 2. */
+    /** Where programs and data of the tests lie: blocks 1, 2 and 3. */
     static final int CODE = 0x800;
     static final int DATA = 0x1000;
+    static final int MORE = 0x1800;
 
     private static int wrong = 0;
     private static int asked = 0;
@@ -12,12 +13,19 @@ final class Rig {
 
     final MainframeCore core = new MainframeCore();
 
-    /** One instruction, or several, from CODE on; program interruptions lead to a machine that waits. */
+    /**
+     * Instructions from CODE on. Interruptions lead to a machine that waits. Bases of the tests are
+     * register 12 (DATA), 13 (MORE), 11 (the last 16 bytes of memory) and 10 (the first byte behind it).
+     */
     Rig(String code) {
         bytes(CODE, code);
         core.write(104, 1L << 49, 8);
         core.write(96, 1L << 49, 8);
         core.write(88, 1L << 49, 8);
+        core.put(10, 0x2000);
+        core.put(11, 0x1FF0);
+        core.put(12, DATA);
+        core.put(13, MORE);
         core.load(CODE);
     }
 
@@ -65,6 +73,10 @@ final class Rig {
 
     Rig data(String hex) {
         return bytes(DATA, hex);
+    }
+
+    Rig more(String hex) {
+        return bytes(MORE, hex);
     }
 
     Rig reg(int k, int v) {
