@@ -619,7 +619,7 @@ public final class MainframeCore {
         private void divide(int v) {
             machine.demandEven(instruction.r);
             long dividend = machine.pair(instruction.r);
-            // 0 stands for no divisor, and a quotient that is too long for a word for none.
+            // What is no word stands for the quotient by 0, which is none either.
             long quotient = v == 0 ? Long.MAX_VALUE : dividend / v;
             if (quotient != (int) quotient) {
                 machine.fail(NO_FIXED_QUOTIENT);
