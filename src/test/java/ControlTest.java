@@ -183,6 +183,7 @@ public final class ControlTest {
         new Rig("8000C000").status(0x00010000, 0).go().dueOld(2, 2, 0, NEXT4);
         new Rig("8000A000").status(0x00010000, 0).go().dueFault(2);
         new Rig("8000A000").go().dueFault(5);
+        new Rig("8000B00F").go().dueFault(0);
         new Rig("8000C000").blockKey(2, 0x11).status(0x00200000, 0).go().dueFault(4);
         new Rig("8000C000").blockKey(2, 0x10).status(0x00200000, 0).go().dueFault(0);
     }
@@ -196,6 +197,7 @@ public final class ControlTest {
         new Rig("8200C004").go().dueOld(6, 2, 0, NEXT4);
         new Rig("8200A004").go().dueFault(5);
         new Rig("8200B00C").go().dueFault(5);
+        new Rig("8200B008").go().dueFault(0);
         new Rig("8200C004").status(0x00010000, 0).go().dueFault(2);
         new Rig("8200C000").status(0x00010000, 0).go().dueFault(2);
         new Rig("8200C000").blockKey(2, 0x11).status(0x00200000, 0).go().dueFault(4);

@@ -13,6 +13,7 @@ public final class DecimalsTest {
         unpacks();
         replaces();
         sums();
+        oneAfterAnother();
         comparisons();
         products();
         quotients();
@@ -41,6 +42,7 @@ public final class DecimalsTest {
         new Rig("4E10C004").go().dueOld(6, 2, 0, Rig.CODE + 4);
         new Rig("4E10A004").go().dueFault(5);
         new Rig("4E10B00C").go().dueFault(5);
+        new Rig("4E10B008").go().dueMemory(0x1FF8, "000000000000000C").dueFault(0);
     }
 
     private static void binary(String data, int due) {
@@ -67,6 +69,7 @@ public final class DecimalsTest {
             new Rig("4F10C000").data(data).reg(1, 99).go().dueReg(1, 99).dueOld(7, 2, 0, Rig.CODE + 4);
         }
         new Rig("4F10C004").go().dueFault(6);
+        new Rig("4F10B008").bytes(0x1FF8, "000000000000009C").go().dueReg(1, 9);
     }
 
     private static void offsets() {
@@ -153,6 +156,15 @@ public final class DecimalsTest {
         String nines = "9999999999999999999999999999999C";
         rig("FAFFC000D000", nines, nines).go().dueData("9999999999999999999999999999998C").dueCondition(3);
         rig("FBFFC000D000", nines, nines).go().dueData("0000000000000000000000000000000C").dueCondition(0);
+    }
+
+    private static void oneAfterAnother() {
+        Rig.part("nothing stays of the numbers before");
+        new Rig("FAFFC000D000FA00C010D010FD31C020D020").data("8888888888888888888888888888888C").more("1".repeat(31) + "C")
+            .bytes(0x1010, "3D").bytes(0x1810, "4C").bytes(0x1020, "0000017C").bytes(0x1820, "005C").go(3)
+            .dueData("9999999999999999999999999999999C1C").dueMemory(0x1020, "003C002C").dueFault(0);
+        new Rig("FAFFC000D000F900C010D010").data("8888888888888888888888888888888C").more("1".repeat(31) + "C")
+            .bytes(0x1010, "3C").bytes(0x1810, "3F").go(2).dueCondition(0);
     }
 
     private static void comparisons() {

@@ -8,6 +8,7 @@ public final class EditTest {
         marks();
         wrongDigits();
         sharedBytes();
+        oneAfterAnother();
         refusals();
         Rig.end();
     }
@@ -37,6 +38,8 @@ public final class EditTest {
         edit("5C20202020", "0102", "5C5CF1F0F2", 1);
         edit("40", "", "40", 0);
         edit("4041", "", "4040", 0);
+        edit("40202020", "999D", "40F9F9F9", 1);
+        edit("4020202020", "908070", "40F9F0F8F0", 1);
     }
 
     private static void signs() {
@@ -115,6 +118,14 @@ public final class EditTest {
         new Rig("DE04C000C001").data("4020204040").go().dueData("40F2F04040").dueCondition(1);
         new Rig("DE04C000C003").data("4020202021").go().dueData("40F2F0F2F1").dueCondition(1);
         new Rig("DE01C000C000").data("4020").go().dueData("40F4").dueCondition(1);
+    }
+
+    private static void oneAfterAnother() {
+        Rig.part("nothing stays of the patterns before");
+        new Rig("DE03C000D000DF02C010D010").data("40202020").more("1234").bytes(0x1010, "5C5020").bytes(0x1810, "0C").go(2)
+            .dueData("40F1F2F3").dueMemory(0x1010, "5C5C5C").dueReg(1, 0).dueCondition(0);
+        new Rig("DF01C000D000DF01C010D010").data("4020").more("1C").bytes(0x1010, "4020").bytes(0x1810, "0C")
+            .go().dueReg(1, 0x1001).reg(1, 0).go().dueReg(1, 0);
     }
 
     private static Rig refused(String code, String pattern) {

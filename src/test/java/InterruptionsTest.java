@@ -53,7 +53,9 @@ public final class InterruptionsTest {
 
     /** Block 2 with a key, the status with another, the same, or none. */
     private static void protectedBytes() {
-        String[] reading = {"5810C000", "4810C000", "4310C000", "9122C000", "9522C000", "9811C000", "5510C000",
+        String[] reading = {"5810C000", "4810C000", "4910C000", "4A10C000", "4B10C000", "4C10C000", "4310C000",
+            "5410C000", "5610C000", "5710C000", "5910C000", "5A10C000", "5B10C000", "5C20C000", "5D20C000", "5E10C000",
+            "5F10C000", "8000C000", "8200C000", "9122C000", "9522C000", "9811C000", "5510C000",
             "D500C000D000", "D500D000C000", "D200D000C000", "DC00D000C000", "DD00C000D000", "DD00D000C000",
             "F100D000C000", "F200D000C000", "F300D000C000", "F900C000D000", "F900D000C000", "FA00D000C000",
             "F800D000C000", "FB00D000C000", "FC10D000C000", "FD10D000C000", "4F10C000", "DE01D000C000"};
@@ -226,6 +228,11 @@ public final class InterruptionsTest {
         rig.core.write(104, Rig.CODE, 8);
         Rig.due("step", rig.core.step(7), 7);
         Rig.due("told", rig.core.told(0), 7);
+        Rig.part("what comes behind an exception is done");
+        rig = new Rig("00").data("1812").reg(2, 6);
+        rig.core.write(104, Rig.DATA, 8);
+        rig.go(2).dueReg(1, 6).dueAddress(Rig.DATA + 2);
+        Rig.due("told", rig.core.told(0), 1);
     }
 
     private static void newStatus() {

@@ -59,9 +59,11 @@ public final class StringsTest {
         Rig.part("D1");
         new Rig("D102C000D000").data("A1A2A3A4").more("1F2E3D4C").condition(2).go().dueData("AFAEADA4").dueCondition(2);
         new Rig("D102C001C000").data("11223344").go().dueData("11213141");
+        new Rig("D100C000D000").data("AF").more("50").go().dueData("A0");
         Rig.part("D3");
         new Rig("D302C000D000").data("A1A2A3A4").more("1F2E3D4C").condition(1).go().dueData("112233A4").dueCondition(1);
         new Rig("D302C001C000").data("11223344").go().dueData("11121314");
+        new Rig("D300C000D000").data("FA").more("05").go().dueData("0A");
     }
 
     private static void bits() {
@@ -84,6 +86,8 @@ public final class StringsTest {
         new Rig("D503C000D000").data("01028004").more("01027FFF").condition(3).go().dueCondition(2);
         new Rig("D500C000D000").data("0102").more("0103").condition(3).go().dueCondition(0);
         new Rig("D501C000D000").data("0102").more("0103").condition(3).go().dueCondition(1);
+        new Rig("D501C000D000").data("0301").more("0205").condition(3).go().dueCondition(2);
+        new Rig("D500C000D000").data("01").more("02").condition(3).go().dueCondition(1);
         Rig.part("all are looked at first");
         new Rig("D504B00CC000").condition(2).data("01").go().dueOld(5, 3, 2, Rig.CODE + 6);
         new Rig("D504C000B00C").condition(2).data("01").go().dueOld(5, 3, 2, Rig.CODE + 6);

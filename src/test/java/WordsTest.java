@@ -263,6 +263,18 @@ public final class WordsTest {
             new Rig(operation + "20A000").go().dueOld(5, 2, 0, Rig.CODE + 4);
             new Rig(operation + "20B00C").bytes(0x1FFC, "00000001").go().dueFault(0);
         }
+        for (int operation = 0x40; operation < 0x60; operation++) {
+            Rig.part(String.format("%02X", operation));
+            boolean there = operation != 0x4D && (operation < 0x51 || operation > 0x53);
+            boolean looks = there && operation != 0x41 && operation != 0x45 && operation != 0x46 && operation != 0x47;
+            // Displacement and base alone lie in memory, and behind it with the index.
+            Rig rig = new Rig(String.format("%02X42C000", operation)).reg(2, 0x1000).data("0000000C0000000C").go();
+            Rig.due("index", rig.core.read(42, 2), looks ? 5 : there ? 0 : 1);
+        }
+        Rig.part("no index");
+        new Rig("9142C000").reg(2, 0x1000).go().dueFault(0);
+        new Rig("8942C001").reg(2, 1).reg(4, 3).go().dueReg(4, 6);
+        new Rig("9024C000").reg(4, 0x1000).go().dueFault(0);
         Rig.part("42, 43");
         new Rig("4220A000").go().dueFault(5);
         new Rig("4320A000").go().dueFault(5);
