@@ -954,13 +954,18 @@ public final class MainframeCore {
             machine.psw.setCondition(found == 0 ? 0 : at == n - 1 ? 2 : 1);
         }
 
-        /** Answers how many bytes there are at a; those that cannot be had tell nothing at b. */
+        /**
+         * Answers how many bytes there are at a. Those beyond memory tell nothing at b, but the others
+         * still do: what they tell may be the lesser exception.
+         */
         private int demandTold(boolean writing) {
             int n = instruction.i + 1;
             machine.demand(instruction.a, n, writing);
-            boolean telling = machine.fine();
-            for (int k = 0; k < n && telling; k++) {
-                machine.demand(toldBy(instruction.a + k), 1, READING);
+            for (int k = 0; k < n; k++) {
+                int at = instruction.a + k & ADDRESS_BITS;
+                if (at < SIZE) {
+                    machine.demand(toldBy(at), 1, READING);
+                }
             }
             return n;
         }

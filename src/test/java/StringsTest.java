@@ -7,6 +7,8 @@ public final class StringsTest {
         comparisons();
         translations();
         tests();
+        toldNearTheEnd("DC");
+        toldNearTheEnd("DD");
         Rig.end();
     }
 
@@ -131,5 +133,36 @@ public final class StringsTest {
         new Rig("DD01B00FC000").go().dueFault(5);
         Rig.part("bytes that may only be read");
         new Rig("DD00C000D000").blockKey(2, 0x10).blockKey(3, 0x10).status(0x00200000, 0x30).go().dueCondition(0);
+    }
+
+    /** The table begins 16 bytes before block 3: a byte of 0 tells one in block 2, which may not be read. */
+    private static void toldNearTheEnd(String operation) {
+        Rig.part(operation + " tells by the bytes below 8192, though others lie beyond");
+        beyond(operation + "03B00EC7F0", "0010").dueOld(4, 3, 0, Rig.CODE + 6);
+        beyond(operation + "03B00EC7F0", "1000").dueOld(4, 3, 0, Rig.CODE + 6);
+        beyond(operation + "FFB00EC7F0", "1000").dueFault(4);
+        Rig.part(operation + " tells nothing by the bytes beyond memory");
+        beyond(operation + "03B00EC7F0", "1010").dueOld(5, 3, 0, Rig.CODE + 6);
+        beyond(operation + "03A000C7F0", "0000").dueFault(5);
+        Rig.part(operation + " tells by the bytes behind the last address");
+        around(operation + "03E000C7F0", "1000").dueFault(4);
+        around(operation + "03E000C7F0", "1010").dueFault(5);
+        around(operation + "02E000C7F0", "1000").dueFault(5);
+    }
+
+    private static Rig beyond(String code, String lastBytes) {
+        Rig rig = foreignTable(code).bytes(0x1FFE, lastBytes).go();
+        rig.dueMemory(0x1FFE, lastBytes);
+        return rig.dueReg(1, 4);
+    }
+
+    private static Rig around(String code, String firstBytes) {
+        return foreignTable(code).reg(14, -2).bytes(0, firstBytes).go().dueMemory(0, firstBytes).dueReg(1, 4);
+    }
+
+    /** The status's key is 2, that of all blocks, but for block 2. */
+    private static Rig foreignTable(String code) {
+        return new Rig(code).reg(1, 4).blockKey(0, 4).blockKey(1, 4).blockKey(2, 0x11).blockKey(3, 4)
+            .status(0x00200000, 0);
     }
 }
