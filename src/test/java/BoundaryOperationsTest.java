@@ -282,6 +282,13 @@ public final class BoundaryOperationsTest {
         new Rig("4410C000").data("92FFD000").reg(1, 0x55).go().dueMemory(Rig.MORE, "FF");
         new Rig("4400C000").data("92F0D000").reg(0, 0x0F).go().dueMemory(Rig.MORE, "F0");
         new Rig("44F0C000").data("92F0D000").reg(15, 0x0F).go().dueMemory(Rig.MORE, "FF");
+        Rig.part("44: r's last byte alone");
+        new Rig("4410C000").data("9100D000").more("0F").reg(1, 0xFFFFFF0F).go().dueCondition(3);
+        new Rig("4410C000").data("9500D000").more("0F").reg(1, 0x7FFFFF0F).go().dueCondition(0);
+        new Rig("4410C000").data("D200D000C004FF").reg(1, 0x12345601).go().dueMemory(Rig.MORE, "C00400").dueFault(0);
+        new Rig("4410C000").data("F900D000C010").more("001C").bytes(0x1010, "001C").reg(1, 0x12345611).go().dueCondition(0);
+        Rig svc = new Rig("4410C000").data("0A50").reg(1, 0xFFFFFF0F).go();
+        Rig.due("SVC", svc.core.read(32, 8), 0x0000005F80000804L);
         Rig.part("44: 3 what 0x44 would do is 0x44");
         new Rig("44100800").go().dueOld(3, 2, 0, Rig.CODE + 4);
         new Rig("4400C000").data("4400C004").bytes(0x1004, "1812").reg(2, 5).go().dueReg(1, 0).dueOld(3, 2, 0, Rig.CODE + 4);
